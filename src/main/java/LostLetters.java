@@ -1231,10 +1231,10 @@ public final class LostLetters {
 
         /** From the fullest on, as each is made of such as are filled less; none has below n. */
         private void addLetter(int s, int n) {
-            for (int amount = n; amount <= text.most[s]; amount++) {
+            for (int amount = n; amount < text.most[s]; amount++) {
                 beginWords(cells, amount * STATES);
             }
-            for (int amount = text.most[s]; amount >= n; amount--) {
+            for (int amount = text.most[s]; amount > n; amount--) {
                 int to = amount * STATES;
                 Arrays.fill(cells, to, to + lexicon.states, 0);
                 for (int state = 1; state < lexicon.states; state++) {
@@ -1304,7 +1304,10 @@ public final class LostLetters {
             for (int turn = 0; turn < MOST_TURNS && s < text.size; turn++) {
                 boolean isGap = text.isGap(s);
                 if (isGap && inGap == 0) {
-                    open(s);
+                    counts.open(s);
+                }
+                if (isGap && inGap == 0 && heavy) {
+                    weights.open(s);
                 }
                 if (text.isMark(s) || (isGap && amount >= text.least[s] && takes(s + 1, 0, state, 0))) {
                     here[s] = inGap;
@@ -1324,13 +1327,6 @@ public final class LostLetters {
                     here[s] = letter;
                     s++;
                 }
-            }
-        }
-
-        private void open(int s) {
-            counts.open(s);
-            if (heavy) {
-                weights.open(s);
             }
         }
 

@@ -212,6 +212,9 @@ public final class AgainstNaiveTest {
     private List<Integer> weights = new ArrayList<>();
     private List<Sign> signs = new ArrayList<>();
     private int rule = 1;
+    private final List<List<Sign>> keptSigns =
+        new ArrayList<>(List.of(new ArrayList<>(), new ArrayList<>(), new ArrayList<>()));
+    private final int[] keptRules = {1, 1, 1};
 
     private AgainstNaiveTest(long seed) {
         random = new Random(seed);
@@ -569,6 +572,48 @@ public final class AgainstNaiveTest {
         Due.dueRestored(x, i, text.toString());
     }
 
+    private void keep(int i) {
+        keptSigns.set(i, new ArrayList<>(signs));
+        keptRules[i] = rule;
+    }
+
+    private void take(int i) {
+        signs = new ArrayList<>(keptSigns.get(i));
+        rule = keptRules[i];
+    }
+
+    /** One question here, one there: what was found of one INSCRIPTION must not get into another. */
+    private void compareByTurns(LostLetters x) {
+        for (int turn = 0; turn < 6; turn++) {
+            int i = below(3);
+            take(i);
+            Naive naive = naive(signs, -1);
+            if (naive.tooMany) {
+                continue;
+            }
+            switch (below(6)) {
+                case 0:
+                    compareFits(x, i, naive);
+                    break;
+                case 1:
+                    compareHeaviest(x, i, naive);
+                    break;
+                case 2:
+                    compareGaps(x, i, naive);
+                    break;
+                case 3:
+                    compareWould(x, i);
+                    break;
+                case 4:
+                    compareStuck(x, i, naive);
+                    break;
+                default:
+                    compareLetters(x, i, naive);
+                    break;
+            }
+        }
+    }
+
     private void runSmall() {
         String alphabet = below(2) == 0 ? "ab" : below(2) == 0 ? "aim" : "abilmw";
         LostLetters x = new LostLetters();
@@ -595,7 +640,11 @@ public final class AgainstNaiveTest {
                 int to = (i + 1 + below(2)) % 3;
                 Due.due("copy", x.copy(i, to), true);
                 compare(x, to);
+                keep(to);
             }
+            keep(i);
+            compareByTurns(x);
+            take(i);
             if (below(4) == 0) {
                 list = makeList(7, 4, alphabet);
                 Due.due("list", Due.list(x, list), words.size());

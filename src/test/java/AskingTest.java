@@ -73,6 +73,11 @@ public final class AskingTest {
         Due.due("21: others", x.stuck(-1, 0), -1);
         dueStuck(tooGreat(), 52, 0, 0);
         dueStuck(Due.told(ONES, GREAT + "z"), 52, 1, Due.bits("ij"));
+        // 2 to the 64 and more ways to come so far
+        dueStuck(Due.told(ONES, "." + GREAT + "z"), 53, 1, Due.bits("ij"));
+        dueStuck(Due.told(ONES, ".." + GREAT + "z"), 54, 1, Due.bits("ij"));
+        dueStuck(Due.told("i1;j1;k1;", "(12)(12)(12)(12)(12)(12)z"), 6, 1, Due.bits("ijk"));
+        dueStuck(Due.told(ONES, "{24}{24}{24}{24}{24}{24}z"), 6, 1, Due.bits("ij"));
     }
 
     private static void would() {
@@ -164,6 +169,7 @@ public final class AskingTest {
         Due.dueRestored(Due.told(WORDS, "z.[ab](3):/"), 0, "z..(?):/");
         Due.dueRestored(Due.told("abcd1;", "(12):{16}:{0-1}"), 0, "(12):(8):(0)");
         Due.dueRestored(Due.told("i1;", "{24}{10}"), 0, "(24)(10)");
+        Due.dueRestored(Due.told("i1;", "{9}{19}(11)(0)"), 0, "(9)(19)(11)(0)");
         Due.dueRestored(Due.told("i1;m1;", "{3}"), 0, "(?)");
         Due.dueRestored(Due.told("", ""), 0, "");
         LostLetters x = Due.told(WORDS, "ab");

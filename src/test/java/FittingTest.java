@@ -89,6 +89,43 @@ public final class FittingTest {
         dueFit(Due.told(WORDS, ":"), 0, 0, 0);
     }
 
+    private static void theLongest() {
+        LostLetters x = Due.told("i7;", "{24}{24}{24}{24}{24}{24}" + GREAT.substring(0, 51) + "...");
+        int[] words = new int[198];
+        dueFit(x, 0, 7 * 198, 198, words);
+        Due.due("13: the last SIGN", Due.fitAt(x, 0, 0, 59), 8);
+        Due.due("13: the last GAP", Due.fitAt(x, 0, 0, 5), 24);
+        Due.due("14: the only one", x.heaviest(0, 0), 0);
+        Due.due("14: its WEIGHT", x.heaviest(0, 1), 7 * 198);
+    }
+
+    /** Questions of one INSCRIPTION between those of another. */
+    private static void byTurns() {
+        LostLetters x = Due.told(WORDS, "(0-2)b");
+        Due.inscribe(x, 1, "[ac]b");
+        Due.inscribe(x, 2, "{4}");
+        for (int turn = 0; turn < 3; turn++) {
+            Due.due("11: of 1", x.fits(1), 2);
+            dueFit(x, 2, 9, 3, 0, 2);
+            Due.due("11: of 2", x.fits(2), 5);
+            Due.due("16: of 0", x.by(0, 1, 1), 12);
+            Due.due("12: of 2", Due.fit(x, 2, 4, 10), 2);
+            Due.due("12: of 1", Due.fit(x, 1, 1, 11), 2);
+            Due.due("14: of 0", x.heaviest(0, 0), 10);
+            Due.due("14: of 1", x.heaviest(1, 0), 1);
+            Due.due("18: of 2", x.gap(2, 0, 2), 5);
+            Due.due("15: of 1", x.letters(1, 0), Due.bits("a"));
+            x.rule(turn, 0);
+            Due.due("12: of 0", Due.fit(x, 0, 9, 1), 11);
+        }
+        Due.list(x, "b 2; ab 9;");
+        Due.due("12: another LIST", Due.fit(x, 0, 1, 10), 0);
+        Due.due("12: another LIST", Due.fit(x, 1, 0, 1), 9);
+        Due.due("12: another LIST", Due.fit(x, 2, 1, 10), 1);
+        Due.due("15: another LIST", x.letters(1, 0), Due.bits("a"));
+        Due.due("14: another LIST", x.heaviest(0, 1), 11);
+    }
+
     private static void twoGaps() {
         // the first GAP as short as can be is ahead, then the second
         LostLetters x = Due.told("a1;", "(0-1){0-2}");
@@ -260,6 +297,8 @@ public final class FittingTest {
     public static void main(String[] args) {
         howMany();
         theKth();
+        theLongest();
+        byTurns();
         twoGaps();
         atSigns();
         theHeaviest();

@@ -116,6 +116,30 @@ public final class TellingTest {
         dueFault("abcdefghij 5; a0;", 0, 2);
     }
 
+    /** What was on the TAPE behind its end is no part of it. */
+    private static void behindTheEnd() {
+        String[] lists = {"a5;b6;", "ab5;", "a 5;", "a5 ;"};
+        int[] cuts = {2, 1, 1, 3};
+        for (int i = 0; i < lists.length; i++) {
+            LostLetters x = new LostLetters();
+            Due.put(x, lists[i]);
+            x.end(cuts[i]);
+            Due.due("3: " + lists[i], x.list(), Due.fault(cuts[i], 1));
+        }
+        String[] texts = {"(3)", "(3-4)", "(3-4)", "(3-4)", "[ab]", "[abc]", "{12}", "(13)"};
+        int[] ends = {2, 1, 3, 4, 3, 2, 3, 2};
+        for (int i = 0; i < texts.length; i++) {
+            LostLetters x = new LostLetters();
+            Due.put(x, texts[i]);
+            x.end(ends[i]);
+            Due.due("3: " + texts[i], x.inscribe(0), Due.fault(ends[i], 1));
+        }
+        LostLetters x = new LostLetters();
+        Due.put(x, "ab:c");
+        x.end(2);
+        Due.due("3: two SIGNS", x.inscribe(0), 2);
+    }
+
     private static void wordsTold() {
         LostLetters x = new LostLetters();
         Due.list(x, "mil 12; abcdefghi 99; jw3;");
@@ -267,6 +291,7 @@ public final class TellingTest {
         feeds();
         ends();
         lists();
+        behindTheEnd();
         wordsTold();
         inscribes();
         inscribeFaults();
