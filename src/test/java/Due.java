@@ -1,5 +1,7 @@
 import java.nio.charset.StandardCharsets;
 import java.util.NoSuchElementException;
+import java.util.function.Supplier;
+import java.util.function.ToLongFunction;
 
 /** What the tests share: telling texts, comparing answers, ending with the exit code that is due. */
 final class Due {
@@ -109,6 +111,66 @@ final class Due {
         String got = restored(x, inscription);
         due("restored " + got + " where due is " + want, got.equals(want), true);
         due("restored behind " + want, x.restored(inscription, want.length()), LostLetters.NONE);
+    }
+
+    static String times(int n, String text) {
+        return text.repeat(n);
+    }
+
+    /** All WORDS of two letters from aa on, of WEIGHT 9: four bytes each. */
+    static String words(int many) {
+        StringBuilder text = new StringBuilder();
+        for (int w = 0; w < many; w++) {
+            text.append((char) ('a' + w / 26)).append((char) ('a' + w % 26)).append("9;");
+        }
+        return text.toString();
+    }
+
+    /** What is no inscription, on each side of the bounds and at the ends of the ints. */
+    static int[] noInscriptions() {
+        return new int[] {-1, 3, 4, Integer.MIN_VALUE, Integer.MAX_VALUE};
+    }
+
+    /** All that can be seen of an object: it has to stay when a call is refused. */
+    static String seen(LostLetters x) {
+        StringBuilder all = new StringBuilder();
+        for (int what = 0; what < 10; what++) {
+            all.append(x.count(what)).append(' ');
+        }
+        int words = x.count(0);
+        for (int w = 0; w < words; w++) {
+            int letters = x.word(w, 0);
+            all.append("| ").append(x.word(w, 1)).append(' ');
+            for (int i = 0; i < letters; i++) {
+                all.append(x.word(w, 10 + i)).append(' ');
+            }
+        }
+        for (int inscription = 0; inscription < 3; inscription++) {
+            int signs = x.count(4 + inscription);
+            all.append("/ ").append(x.fits(inscription)).append(' ');
+            for (int s = 0; s < signs; s++) {
+                all.append(seen(x, inscription, s)).append(' ');
+            }
+        }
+        return all.toString();
+    }
+
+    /** No more calls than need be: an object has 512 of them. */
+    private static String seen(LostLetters x, int inscription, int sign) {
+        int kind = x.sign(inscription, sign, 0);
+        if (kind < 3) {
+            return kind + "=" + x.sign(inscription, sign, 1);
+        }
+        return kind > 4 ? "" + kind : kind + "=" + x.sign(inscription, sign, 2) + "-" + x.sign(inscription, sign, 3);
+    }
+
+    /** On an object of its own: a call that is refused, and that all stays as it was. */
+    static void refused(String call, Supplier<LostLetters> made, ToLongFunction<LostLetters> asked, long want) {
+        LostLetters x = made.get();
+        String before = seen(x);
+        due(call, asked.applyAsLong(x), want);
+        String behind = seen(x);
+        due(call + ": " + before + " became " + behind, before.equals(behind), true);
     }
 
     static int bits(String letters) {
