@@ -271,6 +271,11 @@ public final class BoundsOfFitsTest {
         Due.due("11: 2 to the 65", Due.told(ONES, ".." + GREAT).fits(0), -2);
         Due.due("11: 2 to the 126", Due.told(ONES, "(12)(12)(12)(12)(12)(12)" + Due.times(54, ".")).fits(0), -2);
         Due.due("11: 2 to the 198", Due.told(ONES, Due.times(6, "{24}") + Due.times(54, ".")).fits(0), -2);
+        // one choice is TOO GREAT, another one is not: ahead of it and behind it
+        for (String words : new String[] {"kz1;i1;j1;", "i1;j1;kz1;", "i1;kz1;j1;"}) {
+            Due.due("11: a great part and a less", Due.told(words, "." + GREAT).fits(0), -2);
+            Due.due("11: a great part and a less", Due.told(words, "(0-1)" + GREAT.substring(1)).fits(0), -2);
+        }
         Due.due("11: a great part alone is none", Due.told(ONES, "." + GREAT + "z").fits(0), 0);
         Due.due("11: behind what nothing FITS", Due.told(ONES, "z." + GREAT).fits(0), 0);
         Due.due("11: at a mark within", Due.told("ij1;i1;j1;", Due.times(52, ".") + "(12)" + ":z").fits(0), 0);
